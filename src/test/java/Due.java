@@ -1,0 +1,81 @@
+import java.math.BigInteger;
+
+/** Counts answers that are as due and prints those that are not. */
+final class Due {
+    static final int LEAST = Integer.MIN_VALUE, GREATEST = Integer.MAX_VALUE;
+
+    private static int passed;
+    private static int failed;
+
+    private Due() {
+    }
+
+    static void same(String what, long got, long due) {
+        if (got == due) {
+            passed++;
+        } else {
+            failed++;
+            System.out.println(what + ": answered " + got + ", due is " + due);
+        }
+    }
+
+    static void same(String what, String got, String due) {
+        same(what + " (" + got + " for " + due + ")", got.equals(due) ? 1 : 0, 1);
+    }
+
+    static void holds(String what, boolean it) {
+        same(what, it ? 1 : 0, 1);
+    }
+
+    /** Whether the last call was refused as told and changed nothing but STATUS. */
+    static void refused(String what, FilmNoises x, long digestAhead, int[] statusAhead, int kind) {
+        same(what + " leaves all as it was", x.digest(), digestAhead);
+        for (int i = 0; i < 3; i++) {
+            same(what + ", status " + i, x.status(i), statusAhead[i] + (i == kind ? 1 : 0));
+        }
+    }
+
+    static int[] statusOf(FilmNoises x) {
+        return new int[] {x.status(0), x.status(1), x.status(2)};
+    }
+
+    /** THE FRACTION as "above/below". */
+    static String fraction(FilmNoises x) {
+        return number(x, 0, x.sign(1)) + "/" + number(x, 1, x.sign(2));
+    }
+
+    private static BigInteger number(FilmNoises x, int which, int limbs) {
+        BigInteger all = BigInteger.ZERO;
+        for (int i = limbs - 1; i >= 0; i--) {
+            all = all.shiftLeft(30).add(BigInteger.valueOf(x.limb(which, i)));
+        }
+        return all;
+    }
+
+    /** Types a whole text, 8 bytes a call. */
+    static void type(FilmNoises x, String text) {
+        for (int start = 0; start < text.length(); start += 8) {
+            int end = Math.min(text.length(), start + 8);
+            long v = 0;
+            for (int i = start; i < end; i++) {
+                v = v << 8 | text.charAt(i);
+            }
+            same("type of " + text.substring(start, end), x.type(v, end - start), x.count(2));
+        }
+    }
+
+    /** An object whose reel has this text, with things 0 .. n - 1 of class 0. */
+    static FilmNoises reel(int things, String text) {
+        FilmNoises x = new FilmNoises();
+        for (int i = 0; i < things; i++) {
+            x.thing(0, 0);
+        }
+        type(x, text);
+        return x;
+    }
+
+    static int close() {
+        System.out.println(passed + " passed, " + failed + " failed");
+        return failed == 0 ? 0 : 1;
+    }
+}
