@@ -1217,17 +1217,17 @@ public final class FilmNoises {
     /** Which places are hidden beneath which. */
     private static final class Hiding {
         final int[] values = new int[PLACES * TIMES * BANDS];
+        final int[] pictures = new int[PLACES];
         private int placeCount;
         private int mask;
-        private Reel reel;
 
-        void listen(Film film, Reel told) {
-            reel = told;
-            placeCount = told.placeCount;
+        void listen(Film film, Reel reel) {
+            placeCount = reel.placeCount;
             mask = look(film.puts, MASK);
+            copyRow(reel.pictures, pictures);
             for (int place = 0; place < placeCount; place++) {
-                int thing = look(told.things, place);
-                int far = look(told.fars, place);
+                int thing = look(reel.things, place);
+                int far = look(reel.fars, place);
                 for (int time = 0; time < TIMES; time++) {
                     for (int band = 0; band < BANDS; band++) {
                         lay(values, index(place, time, band), Sounds.heard(film, thing, band, time, far));
@@ -1243,9 +1243,10 @@ public final class FilmNoises {
         boolean isHidden(int place, int hiders) {
             int others = hiders & ~(1 << place);
             for (int time = 0; time < TIMES; time++) {
+                int picture = look(pictures, place) + time;
                 for (int band = 0; band < BANDS; band++) {
                     int own = look(values, index(place, time, band));
-                    if (own > 0 && own * mask > together(place, time, band, others)) {
+                    if (own > 0 && own * mask > together(others, picture, band)) {
                         return false;
                     }
                 }
@@ -1253,22 +1254,17 @@ public final class FilmNoises {
             return true;
         }
 
-        /** Values of others in the picture in which the place has come to a time. */
-        int together(int place, int time, int band, int others) {
+        int together(int places, int picture, int band) {
             int all = 0;
-            for (int other = 0; other < placeCount; other++) {
-                if ((others >> other & 1) == 1) {
-                    int theirs = pictureOf(place) + time - pictureOf(other);
-                    if (fits(theirs, 0, TIMES - 1)) {
-                        all += look(values, index(other, theirs, band));
+            for (int place = 0; places >> place > 0 && place < placeCount; place++) {
+                if ((places >> place & 1) == 1) {
+                    int time = picture - look(pictures, place);
+                    if (time >= 0 && time < TIMES) {
+                        all += look(values, index(place, time, band));
                     }
                 }
             }
             return all;
-        }
-
-        int pictureOf(int place) {
-            return reel == null ? 0 : look(reel.pictures, place);
         }
 
         int hiddenByOthers() {

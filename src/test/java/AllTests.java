@@ -4,7 +4,15 @@ public final class AllTests {
     }
 
     public static void main(String[] args) throws Exception {
+        ThingsTest.run();
+        ChancesTest.run();
+        ReelTest.run();
+        WalkersTest.run();
+        StateTest.run();
+        EdgesTest.run();
         ModelTest.run();
+        LanguageTest.run(args.length > 0 ? args[0] : "src/main/java/FilmNoises.java");
+        RoomTest.run();
         System.exit(Due.close());
     }
 }
