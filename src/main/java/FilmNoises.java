@@ -1207,6 +1207,7 @@ public final class FilmNoises {
             }
         }
 
+        /** The parts of an at are awaited by their numbers' order. */
         boolean takesPart(int[] row, int number, int least, int greatest) {
             lay(row, placeCount, number);
             awaited++;

@@ -8,6 +8,8 @@ final class ChancesTest {
         promise10Seen();
         promise10No();
         promise11Most();
+        promise11Lowest();
+        leastLikeness();
         promise12May();
         promise13Best();
         promise14Truer();
@@ -132,6 +134,39 @@ final class ChancesTest {
         Due.same("most of nothing", none.most(0, 0, 1, 0), -3);
         Due.refused("most of nothing", none, digest, status, 1);
         Due.same("most, BAD ahead of NO", none.most(0, 0, 1, 2), -2);
+    }
+
+    private static void promise11Lowest() {
+        // Likenesses 1000 and 200: 5 by 6 and 1 by 6.
+        FilmNoises x = film(levels(0), 0, 799);
+        x.want(1, 1, 1);
+        most(x, "1/6", 0, 1, 1, 1);
+        most(x, "2/27", 0, 1, 3, 2);
+        most(x, "25/27", 0, 0, 3, 2);
+        // Alike: 1 by 2.
+        FilmNoises y = film(levels(50), 400, 400);
+        most(y, "1/2", 0, 1, 3, 2);
+        most(y, "1/2", 0, 1, 9, 5);
+        most(y, "511/512", 0, 1, 9, 1);
+        // Likenesses 900 and 1000 with the thing near, not far: 9 by 19 and 10 by 19.
+        FilmNoises z = film(levels(50), 300, 400);
+        most(z, "81/361", 0, 0, 2, 2);
+        Due.same("may, near", z.may(0, 0, 9, 19), 9);
+        Due.same("may, near, no more", z.may(0, 0, 10, 21), 2);
+    }
+
+    /** A likeness of 1 is not 0. */
+    private static void leastLikeness() {
+        FilmNoises x = film(levels(0, 0), 799);
+        x.want(0, 1, 200);
+        taken(x, "1/1", 0, 0, 0, -1, 0);
+        most(x, "1/1", 0, 0, 2, 2);
+        Due.same("may, of 1", x.may(0, 0, 99, 99), 9);
+        Due.same("serves, of 1", x.serves(1, 0), 1000);
+        Due.same("words, of 1", x.words(), 0);
+        x.level(1, 0, 0);
+        x.level(1, 2, 1);
+        Due.same("truer, 1 over none", x.truer(0, 1, 0), 0);
     }
 
     private static void promise12May() {
