@@ -10,6 +10,10 @@ public final class AllTests {
         WalkersTest.run();
         StateTest.run();
         EdgesTest.run();
+        RefusalsTest.run();
+        BordersTest.run();
+        ReelBordersTest.run();
+        FilmBordersTest.run();
         ModelTest.run();
         LanguageTest.run(args.length > 0 ? args[0] : "src/main/java/FilmNoises.java");
         RoomTest.run();

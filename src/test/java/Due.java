@@ -39,16 +39,25 @@ final class Due {
         return new int[] {x.status(0), x.status(1), x.status(2)};
     }
 
-    /** THE FRACTION as "above/below". */
+    /** THE FRACTION as "above/below"; its limbs must be as the document tells. */
     static String fraction(FilmNoises x) {
-        return number(x, 0, x.sign(1)) + "/" + number(x, 1, x.sign(2));
+        BigInteger above = number(x, 0, x.sign(1));
+        BigInteger below = number(x, 1, x.sign(2));
+        String shown = above + "/" + below;
+        same("sign of " + shown, x.sign(0), above.signum());
+        holds("below above 0 in " + shown, below.signum() > 0);
+        same("lowest terms of " + shown, above.gcd(below).toString(), "1");
+        return shown;
     }
 
     private static BigInteger number(FilmNoises x, int which, int limbs) {
         BigInteger all = BigInteger.ZERO;
         for (int i = limbs - 1; i >= 0; i--) {
-            all = all.shiftLeft(30).add(BigInteger.valueOf(x.limb(which, i)));
+            int limb = x.limb(which, i);
+            holds("a limb below the base, the highest above 0", limb < 1 << 30 && limb >= (i == limbs - 1 ? 1 : 0));
+            all = all.shiftLeft(30).add(BigInteger.valueOf(limb));
         }
+        same("no limb behind the highest", x.limb(which, limbs), -1);
         return all;
     }
 
