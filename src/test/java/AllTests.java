@@ -11,6 +11,7 @@ public final class AllTests {
         StateTest.run();
         EdgesTest.run();
         RefusalsTest.run();
+        LeavesTest.run();
         BordersTest.run();
         ReelBordersTest.run();
         FilmBordersTest.run();

@@ -1,4 +1,6 @@
 import java.math.BigInteger;
+import java.util.function.Supplier;
+import java.util.function.ToLongFunction;
 
 /** Counts answers that are as due and prints those that are not. */
 final class Due {
@@ -32,6 +34,20 @@ final class Due {
         same(what + " leaves all as it was", x.digest(), digestAhead);
         for (int i = 0; i < 3; i++) {
             same(what + ", status " + i, x.status(i), statusAhead[i] + (i == kind ? 1 : 0));
+        }
+    }
+
+    /** Whether a call on an object made so is refused as told and changes nothing but STATUS: all, both images, and each count. */
+    static void refused(String what, Supplier<FilmNoises> made, ToLongFunction<FilmNoises> call, long due, int kind) {
+        for (int i = 0; i < 2; i++) {
+            FilmNoises x = made.get();
+            FilmNoises twin = made.get();
+            long digest = x.digest();
+            int[] status = statusOf(x);
+            same(what, call.applyAsLong(x), due);
+            refused(what, x, digest, status, kind);
+            same(what + ", image " + i + " is kept or is not", x.from(i), twin.from(i));
+            same(what + ", image " + i + " stays", x.digest(), twin.digest());
         }
     }
 

@@ -1,4 +1,3 @@
-import java.lang.reflect.InvocationTargetException;
 import java.lang.reflect.Method;
 import java.util.Arrays;
 
@@ -7,7 +6,7 @@ final class EdgesTest {
     private EdgesTest() {
     }
 
-    static void run() throws ReflectiveOperationException {
+    static void run() {
         range("thing", 0, 0, 4, 0, 0);
         range("thing", 1, 0, 9, 0, 0);
         range("level", 0, 0, 2, 0, 0, 0);
@@ -41,7 +40,7 @@ final class EdgesTest {
         range("count", 0, 0, 4, 0);
     }
 
-    private static void sounds() throws ReflectiveOperationException {
+    private static void sounds() {
         range("value", 0, 0, 2, 0, 0, 0, 0);
         range("value", 1, 0, 5, 0, 0, 0, 0);
         range("value", 2, 0, 7, 0, 0, 0, 0);
@@ -54,7 +53,7 @@ final class EdgesTest {
         range("likeness", 2, 0, 9, 0, 0, 0);
     }
 
-    private static void shares() throws ReflectiveOperationException {
+    private static void shares() {
         range("taken", 0, 0, 2, 0, 0, 0, 0, 0);
         range("taken", 1, 0, 1, 0, 0, 0, 0, 0);
         range("taken", 2, 0, 9, 0, 0, 0, 0, 0);
@@ -85,7 +84,7 @@ final class EdgesTest {
         range("beast", 0, 0, 1, 0);
     }
 
-    private static void reels() throws ReflectiveOperationException {
+    private static void reels() {
         range("type", 1, 1, 8, 0, 1);
         range("hidden", 0, 0, 2, 0, 0);
         range("hidden", 1, 0, 7, 0, 0);
@@ -93,7 +92,7 @@ final class EdgesTest {
         range("hands", 0, 0, 1, 0);
     }
 
-    private static void walkers() throws ReflectiveOperationException {
+    private static void walkers() {
         int[][] ends = {{0, 99}, {1, 9}, {1, 9}, {0, 20}};
         for (int i = 0; i < 4; i++) {
             range("lag", i, ends[i][0], ends[i][1], 0, 1, 1, 0, 0);
@@ -106,23 +105,32 @@ final class EdgesTest {
         range("steady", 4, 0, 99, 0, 1, 1, 0, 0);
     }
 
-    /** Three things, two meanings, three places, two houses, both images. */
+    /** Three things, two meanings, three places, two houses, both images; all of them unlike what is there at first. */
     private static FilmNoises furnished() {
-        FilmNoises x = Due.reel(3, "at 1 0 0 0; at 2 1 1 0; at 2 2 0 1;");
-        x.level(1, 3, 40);
-        x.meaning(10);
-        x.meaning(20);
-        x.want(1, 3, 90);
-        x.house();
-        x.house();
+        FilmNoises x = new FilmNoises();
+        x.from(0);
         x.see(4);
         x.image(0);
+        for (int i = 0; i < 3; i++) {
+            x.thing(1 + i, 2 + i);
+            x.level(i, i, 40 + i);
+        }
         x.image(1);
+        for (int i = 0; i < 2; i++) {
+            x.meaning(10 + i);
+            x.want(i, i, 90 + i);
+            x.house();
+            x.habit(i, 1, 4 + i);
+        }
+        Due.type(x, "at 1 0 0 0; at 2 1 1 0; at 2 2 0 1;");
+        for (int what = 0; what < 5; what++) {
+            x.put(what, 4 + what);
+        }
         x.whose(1);
         return x;
     }
 
-    private static void range(String name, int which, int least, int greatest, int... told) throws ReflectiveOperationException {
+    private static void range(String name, int which, int least, int greatest, int... told) {
         accepted(name, which, least, told);
         accepted(name, which, greatest, told);
         for (int v : new int[] {least - 1, greatest + 1, Due.LEAST, Due.GREATEST}) {
@@ -132,26 +140,31 @@ final class EdgesTest {
         }
     }
 
-    private static long call(FilmNoises x, String name, int[] told) throws ReflectiveOperationException {
-        for (Method method : FilmNoises.class.getDeclaredMethods()) {
-            if (method.getName().equals(name)) {
-                Object[] all = new Object[told.length];
-                for (int i = 0; i < told.length; i++) {
-                    if (method.getParameterTypes()[i] == long.class) {
-                        all[i] = (long) told[i];
-                    } else {
-                        all[i] = told[i];
-                    }
-                }
-                try {
-                    return ((Number) method.invoke(x, all)).longValue();
-                } catch (InvocationTargetException e) {
-                    e.getCause().printStackTrace(System.out);
-                    return Long.MIN_VALUE;
+    private static long call(FilmNoises x, String name, int[] told) {
+        Object[] all = new Object[told.length];
+        try {
+            Method method = method(name);
+            for (int i = 0; i < told.length; i++) {
+                if (method.getParameterTypes()[i] == long.class) {
+                    all[i] = (long) told[i];
+                } else {
+                    all[i] = told[i];
                 }
             }
+            return ((Number) method.invoke(x, all)).longValue();
+        } catch (ReflectiveOperationException e) {
+            e.printStackTrace(System.out);
+            return Long.MIN_VALUE;
         }
-        throw new IllegalStateException(name);
+    }
+
+    private static Method method(String name) throws NoSuchMethodException {
+        for (Method method : FilmNoises.class.getDeclaredMethods()) {
+            if (method.getName().equals(name)) {
+                return method;
+            }
+        }
+        throw new NoSuchMethodException(name);
     }
 
     private static int[] with(int[] told, int which, int v) {
@@ -160,22 +173,17 @@ final class EdgesTest {
         return all;
     }
 
-    private static void accepted(String name, int which, int v, int[] told) throws ReflectiveOperationException {
+    private static void accepted(String name, int which, int v, int[] told) {
         FilmNoises x = furnished();
         int[] status = Due.statusOf(x);
         int[] all = with(told, which, v);
-        call(x, name, all);
+        Due.holds(name + Arrays.toString(all) + " is answered", call(x, name, all) != Long.MIN_VALUE);
         Due.same(name + Arrays.toString(all) + " is not BAD", x.status(0), status[0]);
     }
 
-    private static void refused(String name, int which, int v, int[] told) throws ReflectiveOperationException {
-        FilmNoises x = furnished();
-        long digest = x.digest();
-        int[] status = Due.statusOf(x);
+    private static void refused(String name, int which, int v, int[] told) {
         int[] all = with(told, which, v);
-        String what = name + Arrays.toString(all);
         int due = name.equals("may") ? -10 : name.equals("status") ? -1 : -2;
-        Due.same(what, call(x, name, all), due);
-        Due.refused(what, x, digest, status, 0);
+        Due.refused(name + Arrays.toString(all), EdgesTest::furnished, x -> call(x, name, all), due, 0);
     }
 }

@@ -18,6 +18,7 @@ final class ReelBordersTest {
         twoHundredBytes();
         thingsThatAreThere();
         fars();
+        farOfAllBehind();
         farOfTheEighth();
         soundsForEightPictures();
         masked();
@@ -290,6 +291,22 @@ final class ReelBordersTest {
                 Due.same("far, level " + level + ", place " + place, x.hidden(place, 0), level > loudest[place] ? 0 : 1);
             }
         }
+    }
+
+    /** A far counts for each at behind it, not for the next one alone; the last of more fars counts, not their sum. */
+    private static void farOfAllBehind() {
+        FilmNoises x = Due.reel(1, "far 5;at 0 0 0 0;at 10 0 0 0;at 20 0 0 0;far 3;at 30 0 0 0;at 40 0 0 0;far 4;far 2;at 50 0 0 0;at 60 0 0 0;");
+        int[] fars = {5, 5, 5, 3, 3, 2, 2};
+        for (int level = 0; level <= 15; level++) {
+            x.level(0, 1, level);
+            for (int place = 0; place < 7; place++) {
+                Due.same("far of all behind, level " + level + ", place " + place, x.hidden(place, 0), level > 2 * fars[place] ? 0 : 1);
+            }
+        }
+        x.clear();
+        Due.type(x, PLACE);
+        x.level(0, 1, 1);
+        Due.same("0 at first again, on another reel", x.hidden(0, 0), 0);
     }
 
     /** The eighth place has its own FAR. */
