@@ -18,6 +18,7 @@ public final class AllTests {
         ModelTest.run();
         LanguageTest.run(args.length > 0 ? args[0] : "src/main/java/FilmNoises.java");
         RoomTest.run();
+        ReadmeTest.run("README.md");
         System.exit(Due.close());
     }
 }

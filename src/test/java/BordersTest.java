@@ -18,6 +18,7 @@ final class BordersTest {
         most();
         may();
         mayWithin();
+        mayJustBelow();
         bestOfLikeOnes();
         truerOfLikeOnes();
         servesCut();
@@ -370,6 +371,43 @@ final class BordersTest {
         Due.same("may, nothing of it but seen", all.may(0, 1, 1, 99), 2);
         all.put(0, 0);
         Due.same("may, nothing of it", all.may(0, 1, 1, 99), -1);
+    }
+
+    /** Shares by hand, just as much and one likeness less: a by b is not cut, nor is the share. */
+    private static void mayJustBelow() {
+        mayBySharesOf(500, 500, 1, 2);
+        mayBySharesOf(250, 500, 1, 3);
+        mayBySharesOf(668, 334, 2, 3);
+        mayBySharesOf(970, 10, 97, 98);
+        mayBySharesOf(980, 10, 98, 99);
+        mayBySharesOf(10, 980, 1, 99);
+        mayBySharesOf(297, 396, 3, 7);
+    }
+
+    private static void mayBySharesOf(int like, int other, int a, int b) {
+        FilmNoises x = new FilmNoises();
+        x.thing(0, 0);
+        x.put(0, 0);
+        for (int v : new int[] {like, like - 1, other}) {
+            int meaning = x.meaning(0);
+            x.want(meaning, 1, Math.min(700, 1000 - v));
+            x.want(meaning, 4, Math.max(0, 300 - v));
+            Due.same("likeness " + v, x.likeness(0, meaning, 0), v);
+        }
+        String what = "may, " + like + " and " + other + ", " + a + " by " + b;
+        // The one of one less is silenced for the first question, then the other way round.
+        silenced(x, 1);
+        Due.same(what, x.may(0, 0, a, b), 9);
+        x.want(1, 1, Math.min(700, 1001 - like));
+        x.want(1, 4, Math.max(0, 301 - like));
+        x.want(1, 5, 0);
+        silenced(x, 0);
+        Due.same(what + ", one less", x.may(0, 1, a, b), -1);
+    }
+
+    private static void silenced(FilmNoises x, int meaning) {
+        x.want(meaning, 1, 799);
+        x.want(meaning, 5, 799);
     }
 
     private static void mayWithin() {

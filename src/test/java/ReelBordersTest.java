@@ -16,6 +16,7 @@ final class ReelBordersTest {
         pictures();
         ninthAt();
         twoHundredBytes();
+        bytesThatWere();
         thingsThatAreThere();
         fars();
         farOfAllBehind();
@@ -259,6 +260,39 @@ final class ReelBordersTest {
         FilmNoises x = Due.reel(1, "far 9;".repeat(33) + "  ");
         Due.same("only fars", x.fault(), -1);
         Due.same("no places", x.places(), 0);
+    }
+
+    private static void faultBehind(String ahead, String text, int due) {
+        FilmNoises x = Due.reel(3, ahead);
+        x.clear();
+        Due.type(x, text);
+        Due.same("fault of \"" + text + "\", \"" + ahead + "\" ahead of clear", x.fault(), due);
+        FilmNoises y = Due.reel(3, text);
+        y.image(1);
+        y.clear();
+        Due.type(y, ahead);
+        y.image(0);
+        y.from(1);
+        Due.same("fault of \"" + text + "\", \"" + ahead + "\" ahead of from", y.fault(), due);
+        y.from(0);
+        y.clear();
+        Due.type(y, text);
+        Due.same("fault of \"" + text + "\" behind all that", y.fault(), due);
+    }
+
+    /** Bytes that are there no more are part of no token. */
+    private static void bytesThatWere() {
+        faultBehind("atz", "at", 2);
+        faultBehind("fart 1;", "far", 3);
+        faultBehind("at 1234", "at 123", 6);
+        faultBehind("at 12345", "at 1", 4);
+        faultBehind("far 99;", "far 9", 5);
+        faultBehind("zzzzzzzzzzzz", PLACE, -1);
+        faultBehind("at 5 0 0 0;at 4", PLACE, -1);
+        faultBehind(PLACE, "at 5 0 0 0", 10);
+        faultBehind(PLACE, "  ", -1);
+        faultBehind("a", "", -1);
+        faultBehind("at 5 0 0 0;".repeat(9), PLACE.repeat(8), -1);
     }
 
     private static void thingsThatAreThere() {
