@@ -1,16 +1,11 @@
 import java.io.IOException;
-import java.net.URI;
 import java.net.URL;
 import java.net.URLClassLoader;
 import java.nio.file.Files;
 import java.nio.file.Path;
-import java.util.Arrays;
 import java.util.List;
 import java.util.regex.Matcher;
 import java.util.regex.Pattern;
-import javax.tools.JavaFileObject;
-import javax.tools.SimpleJavaFileObject;
-import javax.tools.ToolProvider;
 
 /** Runs README.md's blocks of Java: each line with an answer behind "// =" must answer it. */
 final class ReadmeTest {
@@ -59,20 +54,16 @@ final class ReadmeTest {
                 return ((java.util.function.Supplier<List<String[]>>) made).get();
             }
         } finally {
+            Files.deleteIfExists(out.resolve("Readme.java"));
             Files.deleteIfExists(out.resolve("Readme.class"));
             Files.delete(out);
         }
     }
 
-    private static void compile(String source, Path out) throws IOException {
-        JavaFileObject file = new SimpleJavaFileObject(URI.create("string:///Readme.java"), JavaFileObject.Kind.SOURCE) {
-            @Override
-            public CharSequence getCharContent(boolean ignored) {
-                return source;
-            }
-        };
-        List<String> told = Arrays.asList("-d", out.toString(), "-cp", System.getProperty("java.class.path"));
-        Due.holds("README.md's blocks compile", ToolProvider.getSystemJavaCompiler()
-            .getTask(null, null, null, told, null, List.of(file)).call());
+    private static void compile(String source, Path out) throws IOException, InterruptedException {
+        Path file = Files.writeString(out.resolve("Readme.java"), source);
+        Process javac = new ProcessBuilder("javac", "-d", out.toString(), "-cp", System.getProperty("java.class.path"),
+            file.toString()).inheritIO().start();
+        Due.same("README.md's blocks compile", javac.waitFor(), 0);
     }
 }
